@@ -1218,7 +1218,7 @@ public final class SealedBonds {
         }
 
         /** Goes through all rows of the length, ascending, from depth on; the first that gains stays in lists. */
-        boolean gainsByLie(int person, int truly, int length, int depth, int used) {
+        private boolean gainsByLie(int person, int truly, int length, int depth, int used) {
             if (depth >= length || depth >= People.LISTED) {
                 listed[person] = length;
                 return run() && rankHeldBy(person) < truly;
@@ -1473,7 +1473,7 @@ public final class SealedBonds {
         }
 
         /** Whether it came to the goal ahead of the end. The tables must be ready. */
-        boolean step(int at, int set, int slots, int wanted, int used) {
+        private boolean step(int at, int set, int slots, int wanted, int used) {
             if (at >= liveCount) {
                 return arrive(set, slots, wanted);
             }

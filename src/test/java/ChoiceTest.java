@@ -184,6 +184,9 @@ public final class ChoiceTest {
         Check.due("three in a chain", taken("w0&1;w1&2", 31), 31);
         Check.due("the chain broken", taken("w0&1;w1&2", 27), 24);
         Check.due("together and never both", taken("w0&1;x1|0", 31), 28);
+        Check.due("one with two others", taken("w0&1;w0&2", 5), 0);
+        Check.due("one with two others", taken("w1&0;w2&0", 7), 7);
+        Check.due("never with two others", taken("x0|1;x0|2", 31), 25);
         Check.due("the dearer bond of the first one", taken("r+p;w0&4;q2", 63), 48);
     }
 
@@ -208,6 +211,8 @@ public final class ChoiceTest {
         Check.due("never both", x.why(0, 5, 2), 5);
         Check.choice(x, 0, "q2;k2*2;x0|1");
         Check.due("kept places, ahead of never both", x.why(0, 3, 1), 4);
+        Check.choice(x, 0, "q2;c30;x0|1");
+        Check.due("just as many and as dear as may be", x.why(0, 3, 1), 5);
         Check.choice(x, 0, "r-p;q3;w1&4");
         Check.due("take", x.take(0, 31), 19);
         Check.due("what is taken behind does not count", x.why(0, 31, 2), 6);

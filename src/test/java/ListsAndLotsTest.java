@@ -56,6 +56,15 @@ public final class ListsAndLotsTest {
         x.couple(0, 2);
         Check.due("couples too", x.left(), 5);
         Check.due("none stands", NoneTest.unsettled().left(), -2);
+        SealedBonds y = Check.market(3, 1);
+        y.bond(0, 0, 10, 0, 0);
+        y.bond(1, 0, 10, 0, 0);
+        y.bond(0, 0, 20, 0, 0);
+        Check.lists(y, 0, 1, 2);
+        Check.choice(y, 0, "c20;r+p");
+        y.all();
+        Check.row("two stand", y, 3, 4);
+        Check.due("one has something in the first alone", y.left(), 4);
     }
 
     private static void same() {
@@ -70,6 +79,13 @@ public final class ListsAndLotsTest {
         }
         Check.due("the second has the same", y.same(), 2);
         Check.due("none stands", NoneTest.unsettled().same(), -2);
+        SealedBonds z = Check.market(2, 2, Check.b(0, 0), Check.b(1, 0), Check.b(1, 1), Check.b(0, 1), Check.b(1, 0));
+        Check.lists(z, 4, 3, 1, 0, 2);
+        Check.choice(z, 0, "w0&1");
+        Check.choice(z, 1, "w0&1");
+        z.all();
+        Check.row("three stand", z, 3, 12, 17);
+        Check.due("the second has something in the second alone", z.same(), 0);
     }
 
     private static void lot() {

@@ -42,6 +42,9 @@ public final class WhoThereIsTest {
     }
 
     private static void person() {
+        SealedBonds one = new SealedBonds();
+        one.person(0);
+        Check.due("all of one person", one.all(), 1);
         SealedBonds x = new SealedBonds();
         for (int kind : new int[] {-1, 4, LEAST, GREATEST}) {
             Check.due("person(" + kind + ")", x.person(kind), -1);
@@ -54,6 +57,9 @@ public final class WhoThereIsTest {
     }
 
     private static void office() {
+        SealedBonds one = new SealedBonds();
+        one.office();
+        Check.due("all of one office", one.all(), 1);
         SealedBonds x = new SealedBonds();
         for (int i = 0; i < 4; i++) {
             Check.due("office " + i, x.office(), i);
