@@ -175,6 +175,13 @@ public final class BoundsOfLotsTest {
         Check.choice(x, 0, "q1");
         Check.due("all but the last", x.left(), 63);
         Check.due("something in one of ALL is enough", MatchingTest.fork().left(), 0);
+        SealedBonds first = Check.market(3, 1, Check.b(0, 0), Check.b(1, 0));
+        first.bond(0, 0, 20, 0, 0);
+        Check.lists(first, 0, 1, 2);
+        Check.choice(first, 0, "c20;r+p");
+        Check.due("two STAND", first.all(), 2);
+        Check.row("two STAND", first, 3, 4);
+        Check.due("something in the first of ALL is enough", first.left(), 4);
         Check.due("nothing STANDS", NoneTest.unsettled().left(), -2);
         SealedBonds couple = Check.market(2, 1, Check.b(0, 0));
         couple.couple(1, 0);
@@ -193,6 +200,13 @@ public final class BoundsOfLotsTest {
         Check.choice(x, 1, "q1");
         Check.due("two STAND", x.all(), 2);
         Check.due("as many, but others", x.same(), 7);
+        SealedBonds y = Check.market(2, 2, Check.b(0, 0), Check.b(1, 0), Check.b(1, 1), Check.b(0, 1), Check.b(1, 0));
+        Check.lists(y, 4, 3, 1, 0, 2);
+        Check.choice(y, 0, "w0&1");
+        Check.choice(y, 1, "w0&1");
+        Check.due("three STAND", y.all(), 3);
+        Check.row("three STAND", y, 3, 12, 17);
+        Check.due("another in one of ALL is enough", y.same(), 0);
         x.clear(0);
         x.list(0);
         Check.due("of one that STANDS all have the same", x.same(), 15);

@@ -16,7 +16,10 @@ public final class BoundsOfMatchingsTest {
         offerHeldTwice();
         allFromNoneToFortyAndMore();
         allAscending();
+        allAnew();
         bestAndWorst();
+        bestOfMany();
+        bestOfCouples();
         bestWithoutOne();
         stepsBetween();
         stepsOfOthers();
@@ -379,6 +382,40 @@ public final class BoundsOfMatchingsTest {
         }
     }
 
+    /** What STANDS is known anew, whatever has changed since ALL were asked for. */
+    private static void allAnew() {
+        SealedBonds x = Check.market(3, 2, Check.b(0, 0), Check.b(1, 0));
+        Check.choice(x, 0, "q1;r+n");
+        told(x, "nothing listed", 0);
+        x.list(0);
+        told(x, "one listed", 1);
+        x.list(1);
+        told(x, "one ahead of it listed", 2);
+        x.bond(1, 0, 0, 0, 0);
+        told(x, "a BOND that is not listed", 2);
+        x.clear(1);
+        told(x, "the one ahead cleared", 1);
+        x.list(2);
+        told(x, "its other BOND listed", 4);
+        x.couple(1, 2);
+        told(x, "a COUPLE without PAIRS", 1);
+        x.pair(0, 2, -1);
+        told(x, "a COUPLE with a PAIR", 4);
+        Check.choice(x, 0, "q1;r-n");
+        told(x, "another text", 1);
+        x.person(0);
+        told(x, "another PERSON", 1);
+        Check.due("who is left", x.left(), 2 | 4 | 8);
+        x.office();
+        Check.due("another OFFICE", x.same(), 7);
+    }
+
+    private static void told(SealedBonds x, String what, int due) {
+        Check.due(what + ": all", x.all(), 1);
+        Check.row(what, x, due);
+        Check.due(what + ": best", x.best(0), due);
+    }
+
     // ---- best and steps
 
     /** Promise 19: "the one best FOR PEOPLE (side 0 ..), worst FOR PEOPLE (1 ..)". */
@@ -393,6 +430,36 @@ public final class BoundsOfMatchingsTest {
         Check.due("side -1", x.best(-1), -1);
         Check.due("side least", x.best(Integer.MIN_VALUE), -1);
         Check.due("side greatest", x.best(Integer.MAX_VALUE), -1);
+        // The LIST turned round: what was the best is the worst then.
+        x.clear(0);
+        Check.lists(x, 0, 1);
+        Check.due("the best alone is left of the first's", x.all(), 3);
+        Check.due("the best then", x.best(0), 1 | 16);
+        Check.due("the worst then", x.best(1), 1 | 4);
+    }
+
+    /** More than the ROW holds, and the longest LISTS, of the last PEOPLE too. */
+    private static void bestOfMany() {
+        SealedBonds x = product(1, 1, 5, 5, 5);
+        Check.due("all", x.all(), 125);
+        int best = 3 | 16 << 2 | 16 << 7 | 16 << 12;
+        int worst = 3 | 1 << 2 | 1 << 7 | 1 << 12;
+        Check.due("the best of 125", x.best(0), best);
+        Check.due("the worst of 125", x.best(1), worst);
+        Check.due("steps across", x.steps(best, worst), 12);
+        Check.due("steps aside", x.steps(3 | 16 << 2 | 1 << 7 | 2 << 12, 3 | 1 << 2 | 16 << 7 | 2 << 12), 8);
+        Check.due("the last by bits", x.lot(16), 200);
+        Check.due("in the midst", x.mean(), 3 | 4 << 2 | 4 << 7 | 4 << 12);
+        Check.due("nobody is left", x.left(), 0);
+        Check.due("the same", x.same(), 2);
+        SealedBonds y = product(1, 1, 1, 1, 1, 5, 5);
+        Check.due("the best of the last two", y.best(0), 31 | 16 << 5 | 16 << 10);
+        Check.due("the worst of the last two", y.best(1), 31 | 1 << 5 | 1 << 10);
+        Check.due("steps of the last two", y.steps(31 | 16 << 5 | 1 << 10, 31 | 1 << 5 | 16 << 10), 8);
+    }
+
+    /** Terms 3: "COUPLES by theirs together". */
+    private static void bestOfCouples() {
         SealedBonds couple = Check.market(3, 1, Check.b(0, 0), Check.b(1, 0), Check.b(2, 0));
         couple.couple(0, 1);
         couple.pair(0, 0, 1);
@@ -400,6 +467,49 @@ public final class BoundsOfMatchingsTest {
         couple.list(2);
         Check.choice(couple, 0, "q3");
         Check.due("a COUPLE has its best", couple.best(0), 7);
+        // Both COUPLES have a PAIR, if one single PERSON comes to their OFFICE: all together, or nobody.
+        SealedBonds x = Check.market(5, 1, Check.b(0, 0), Check.b(1, 0), Check.b(2, 0), Check.b(3, 0), Check.b(4, 0));
+        x.couple(0, 1);
+        x.couple(2, 3);
+        x.pair(0, 0, 1);
+        x.pair(1, -1, 3);
+        x.pair(1, 2, -1);
+        x.list(4);
+        Check.choice(x, 0, "w0&4;w3&4;x2|4");
+        Check.due("all", x.all(), 2);
+        Check.row("all", x, 4, 27);
+        Check.due("better for all", x.best(0), 27);
+        Check.due("worse for all", x.best(1), 4);
+        Check.due("one step", x.steps(4, 27), 1);
+        x.clear(4);
+        Check.due("without the single one", x.all(), 1);
+        Check.due("the second PAIR is the best", x.best(0), 4);
+        ranksOfEachCouple();
+    }
+
+    /** Only one of two COUPLES tells two MATCHINGS apart, and by its last PAIR: the first COUPLE, or the second. */
+    private static void ranksOfEachCouple() {
+        for (int which = 0; which < 2; which++) {
+            SealedBonds x = Check.market(6, 2, Check.b(0, 0), Check.b(1, 0), Check.b(3, 1), Check.b(3, 1), Check.b(3, 1));
+            if (which == 1) {
+                x.couple(4, 5);
+            }
+            x.couple(1, 3);
+            for (int idle = 2; idle < 5; idle++) {
+                x.pair(which, -1, idle);
+            }
+            x.pair(which, 1, -1);
+            if (which == 0) {
+                x.couple(4, 5);
+            }
+            x.list(0);
+            Check.choice(x, 0, "w0&1");
+            Check.due("COUPLE " + which + ": both or neither", x.all(), 2);
+            Check.row("COUPLE " + which + ": both or neither", x, 0, 3);
+            Check.due("COUPLE " + which + ": both is better", x.best(0), 3);
+            Check.due("COUPLE " + which + ": neither is worse", x.best(1), 0);
+            Check.due("COUPLE " + which + ": one step", x.steps(3, 0), 1);
+        }
     }
 
     /** Promise 19: "-2: there is none such". */
@@ -411,6 +521,19 @@ public final class BoundsOfMatchingsTest {
         SealedBonds fork = MatchingTest.fork();
         Check.due("two of three are not worse than one another", fork.best(0), -2);
         Check.due("all others are better than the worst", fork.best(1), 1);
+        Check.due("two apart: no best", apart().best(0), -2);
+        Check.due("two apart: no worst", apart().best(1), -2);
+    }
+
+    /** BONDS 1 alone, or 0 and 2: PERSON 0 and PERSON 1 don't agree which is better. */
+    private static SealedBonds apart() {
+        SealedBonds x = Check.market(2, 1);
+        x.bond(1, 0, 10, 0, 0);
+        x.bond(1, 0, 20, 0, 0);
+        x.bond(0, 0, 10, 0, 0);
+        Check.lists(x, 1, 2, 0);
+        Check.choice(x, 0, "c20");
+        return x;
     }
 
     /** Promise 20: "The fewest steps .., each step to one of ALL next to it .., and none of ALL between". */
@@ -438,12 +561,7 @@ public final class BoundsOfMatchingsTest {
         for (int[] a : others) {
             Check.due("steps(" + a[0] + ", " + a[1] + ")", x.steps(a[0], a[1]), -1);
         }
-        SealedBonds apart = Check.market(2, 1);
-        apart.bond(1, 0, 10, 0, 0);
-        apart.bond(1, 0, 20, 0, 0);
-        apart.bond(0, 0, 10, 0, 0);
-        Check.lists(apart, 1, 2, 0);
-        Check.choice(apart, 0, "c20");
+        SealedBonds apart = apart();
         Check.due("neither is better", apart.steps(2, 5), -2);
         Check.due("nor the other way", apart.steps(5, 2), -2);
         Check.due("but to itself", apart.steps(5, 5), 0);
@@ -466,6 +584,19 @@ public final class BoundsOfMatchingsTest {
         Check.due("no BOND breaks by itself", z.near(), 0);
         Check.row("no BOND breaks by itself", z, 0);
         Check.due("though two together do", z.judge(0), 3);
+        SealedBonds none = together();
+        Check.due("nothing STANDS", none.all(), 0);
+        Check.due("but no BOND breaks by itself", none.near(), 0);
+        Check.row("but no BOND breaks by itself", none, 1);
+    }
+
+    /** Nothing STANDS: what no BOND breaks is broken by both PEOPLE together, and that by a BOND of one of them. */
+    private static SealedBonds together() {
+        SealedBonds x = Check.market(2, 2, Check.b(1, 0), Check.b(0, 0), Check.b(1, 1), Check.b(0, 1));
+        Check.lists(x, 1, 3, 2, 0);
+        Check.choice(x, 0, "q1;r+n");
+        Check.choice(x, 1, "q2;r+n;w0&1");
+        return x;
     }
 
     /** Promise 21: "the least number of COUPLES that break and of BONDS that break by themselves". */
@@ -485,6 +616,17 @@ public final class BoundsOfMatchingsTest {
         x.couple(2, 3);
         Check.due("a COUPLE's own LISTS do not count", x.near(), 0);
         Check.row("a COUPLE's own LISTS do not count", x, 3);
+        // The same with the single PERSON's BONDS ahead of the COUPLE's.
+        SealedBonds y = Check.market(3, 2, Check.b(2, 1), Check.b(2, 0), Check.b(0, 0), Check.b(1, 1));
+        y.couple(0, 1);
+        y.pair(0, 2, 3);
+        Check.lists(y, 1, 0);
+        Check.choice(y, 0, "q1;r-n");
+        Check.choice(y, 1, "q1;r+n");
+        Check.due("the first BOND counts too", y.near(), 1);
+        Check.row("a BOND that is had does not", y, 1);
+        y.judge(12);
+        Check.row("the first BOND breaks the PAIR", y, 1, 1);
     }
 
     /** Promise 21: "the first such MATCHING by bits". Only FREE ones are such. */
@@ -560,16 +702,25 @@ public final class BoundsOfMatchingsTest {
     /** Promise 22: "at some OFFICES", "the ROW: of each OFFICE how many more". */
     private static void placesInSeveralOffices() {
         int[][] singles = {{1, 2}, {2, 1}, {1, 1}, {0, 3}, {3, 0}, {0, 0}};
+        int[][] where = {{0, 1}, {0, 3}, {2, 3}, {1, 2}, {3, 0}};
         for (int[] s : singles) {
-            SealedBonds x = Check.market(7, 3);
-            crowd(x, 0, 0, 4, s[0]);
-            crowd(x, 2, 1, 4 + s[0], s[1]);
-            Check.choice(x, 0, "q1");
-            Check.choice(x, 1, "q1");
-            Check.choice(x, 2, "q1");
-            Check.due("places of " + s[0] + " and " + s[1], x.places(), s[0] + s[1]);
-            Check.row("places of " + s[0] + " and " + s[1], x, s[0], 0, s[1]);
+            for (int[] w : where) {
+                SealedBonds x = Check.market(7, 4);
+                crowd(x, w[0], 0, 4, s[0]);
+                crowd(x, w[1], 1, 4 + s[0], s[1]);
+                int[] due = new int[4];
+                due[w[0]] = s[0];
+                due[w[1]] = s[1];
+                for (int o = 0; o < 4; o++) {
+                    Check.choice(x, o, "q1");
+                }
+                Check.due("places of " + s[0] + " and " + s[1], x.places(), s[0] + s[1]);
+                Check.row("places of " + s[0] + " and " + s[1], x, due);
+            }
         }
+        SealedBonds x = together();
+        Check.due("what STANDS is asked for, not what is near", x.places(), 1);
+        Check.row("what STANDS is asked for, not what is near", x, 1, 0);
     }
 
     /** Promise 22: "what q tells, 8 at most in the end". It can be seen by KEPT places alone. */

@@ -20,6 +20,7 @@ public final class BoundsOfTextsTest {
         oneBondOfAPerson();
         firstAllowedSet();
         noTextTold();
+        inPlaceOfTheFormer();
         Check.close("BoundsOfTextsTest");
     }
 
@@ -427,6 +428,10 @@ public final class BoundsOfTextsTest {
         takes("w0&1;w0&2", 7, 7);
         takes("w0&1;w0&2", 3, 0);
         takes("w0&1;w0&1", 3, 3);
+        takes("w0&1;w2&1", 6, 0);
+        takes("w0&1;w2&1", 3, 0);
+        takes("w1&0;w1&2", 5, 0);
+        takes("w1&0;w1&2", 7, 7);
         SealedBonds x = Check.market(1, 1, Check.b(0, 0));
         Check.choice(x, 0, "w0&1");
         Check.due("with nobody", x.take(0, 1), 0);
@@ -507,5 +512,32 @@ public final class BoundsOfTextsTest {
         Check.due("still nothing", x.take(0, 3), 0);
         Check.choice(x, 0, "q0");
         Check.due("q0: too many", x.why(0, 3, 0), 2);
+    }
+
+    /** Promise 11: "is an OFFICE's CHOICE in place of the one it had": nothing of the former ones is left. */
+    private static void inPlaceOfTheFormer() {
+        String[] former = {"q1", "c99", "r+n", "k3*9", "w0&6", "x0|1", "q1;c99;r+n;k3*9;w0&6;x0|1"};
+        for (String text : former) {
+            SealedBonds x = seven(text);
+            for (int times = 1; times <= 3; times++) {
+                Check.due(text + ", then another", Check.choice(x, 0, "q8"), 1);
+                Check.due(text + ", then another: take", x.take(0, 127), 127);
+                Check.due(text + ", then another: order", x.order(6), 6);
+                Check.due(text + ", then another, without q", Check.choice(x, 0, "r+p"), 1);
+                Check.due(text + ", then another, without q: take", x.take(0, 127), 127);
+                Check.due(text + ", then another, without q: order", x.order(6), 6);
+                Check.choice(x, 0, text);
+                Check.due(text + " once more", x.take(0, 127), seven(text).take(0, 127));
+                Check.due(text + ", cut off", Check.choice(x, 0, "c1;" + text + ";"), -5 - text.length());
+                Check.due(text + " stays", x.take(0, 127), seven(text).take(0, 127));
+            }
+        }
+        SealedBonds two = Check.market(2, 2, Check.b(0, 0), Check.b(1, 0), Check.b(0, 1), Check.b(1, 1));
+        Check.choice(two, 0, "q1");
+        Check.choice(two, 1, "q2");
+        Check.choice(two, 0, "r+n");
+        Check.due("of the first OFFICE", two.take(0, 15), 3);
+        Check.choice(two, 0, "q0");
+        Check.due("of the other OFFICE still", two.take(1, 15), 12);
     }
 }
