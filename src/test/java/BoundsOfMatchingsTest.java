@@ -484,11 +484,12 @@ public final class BoundsOfMatchingsTest {
         x.clear(4);
         Check.due("without the single one", x.all(), 1);
         Check.due("the second PAIR is the best", x.best(0), 4);
-        ranksOfEachCouple();
+        pairsBehindOthers();
+        couplesAlone();
     }
 
-    /** Only one of two COUPLES tells two MATCHINGS apart, and by its last PAIR: the first COUPLE, or the second. */
-    private static void ranksOfEachCouple() {
+    /** A COUPLE has its last PAIR, or nothing, behind that: the first COUPLE, or the second. */
+    private static void pairsBehindOthers() {
         for (int which = 0; which < 2; which++) {
             SealedBonds x = Check.market(6, 2, Check.b(0, 0), Check.b(1, 0), Check.b(3, 1), Check.b(3, 1), Check.b(3, 1));
             if (which == 1) {
@@ -510,6 +511,33 @@ public final class BoundsOfMatchingsTest {
             Check.due("COUPLE " + which + ": neither is worse", x.best(1), 0);
             Check.due("COUPLE " + which + ": one step", x.steps(3, 0), 1);
         }
+    }
+
+    /** Only COUPLES tell two MATCHINGS apart: both the same way, or each its own. */
+    private static void couplesAlone() {
+        SealedBonds agreed = Check.market(4, 1, Check.b(0, 0), Check.b(2, 0));
+        agreed.couple(0, 1);
+        agreed.couple(3, 2);
+        agreed.pair(0, 0, -1);
+        agreed.pair(1, -1, 1);
+        Check.choice(agreed, 0, "w0&2");
+        Check.due("together or neither", agreed.all(), 2);
+        Check.row("together or neither", agreed, 0, 3);
+        Check.due("together is better for both", agreed.best(0), 3);
+        Check.due("neither is worse for both", agreed.best(1), 0);
+        Check.due("one step", agreed.steps(0, 3), 1);
+        SealedBonds other = Check.market(4, 2, Check.b(0, 0), Check.b(1, 1), Check.b(2, 0), Check.b(3, 1));
+        other.couple(0, 1);
+        other.couple(2, 3);
+        other.pair(0, 0, 1);
+        other.pair(1, 2, 3);
+        Check.choice(other, 0, "q1");
+        Check.choice(other, 1, "q1;r+n");
+        Check.due("the one or the other", other.all(), 2);
+        Check.row("the one or the other", other, 3, 12);
+        Check.due("none is better for both", other.best(0), -2);
+        Check.due("none is worse for both", other.best(1), -2);
+        Check.due("no way", other.steps(3, 12), -2);
     }
 
     /** Promise 19: "-2: there is none such". */

@@ -224,7 +224,7 @@ public final class MatchingTest {
         couplesRankTogether();
     }
 
-    /** Only the COUPLE tells these two apart: it has BOND 1 and nothing, or nothing and nothing. */
+    /** The COUPLE has BOND 1 and nothing, or nothing and nothing; so it does with PERSON 0. */
     private static void couplesRankTogether() {
         SealedBonds x = Check.market(3, 1, Check.b(0, 0), Check.b(1, 0));
         x.couple(1, 2);

@@ -127,19 +127,23 @@ public final class RandomRunsTest {
         for (int i = 0; i < lines; i++) {
             text.append(i > 0 ? ";" : "");
             switch (below(9)) {
-                case 0: case 1: case 2: text.append("q").append(below(30) == 0 ? below(1000) : below(5)); break;
+                case 0: case 1: case 2: text.append("q").append(drawnPlaces()); break;
                 case 3: text.append("c").append(below(150)); break;
                 case 4: case 5: text.append("r").append(keys()); break;
-                case 6: text.append("k").append(below(4)).append("*").append(below(3)); break;
+                case 6: text.append("k").append(below(4)).append("*").append(below(below(2) == 0 ? 3 : 10)); break;
                 default: text.append(two(below(2) == 0)); break;
             }
         }
         return text.toString();
     }
 
+    private int drawnPlaces() {
+        return below(30) == 0 ? below(1000) : below(5) == 0 ? 5 + below(6) : below(5);
+    }
+
     private String keys() {
         StringBuilder keys = new StringBuilder();
-        int many = 1 + below(3);
+        int many = 1 + below(below(4) == 0 ? 5 : 3);
         for (int i = 0; i < many; i++) {
             keys.append(below(2) == 0 ? '+' : '-').append("pytkn".charAt(below(5)));
         }
