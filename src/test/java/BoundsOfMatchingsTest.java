@@ -28,6 +28,7 @@ public final class BoundsOfMatchingsTest {
         nearFirstByBits();
         placesFromNoneToThree();
         placesInSeveralOffices();
+        placesInAllOffices();
         placesEightAtMost();
         placesWithAChoice();
         placesFirstRow();
@@ -620,11 +621,20 @@ public final class BoundsOfMatchingsTest {
 
     /** Nothing STANDS: what no BOND breaks is broken by both PEOPLE together, and that by a BOND of one of them. */
     private static SealedBonds together() {
-        SealedBonds x = Check.market(2, 2, Check.b(1, 0), Check.b(0, 0), Check.b(1, 1), Check.b(0, 1));
-        Check.lists(x, 1, 3, 2, 0);
-        Check.choice(x, 0, "q1;r+n");
-        Check.choice(x, 1, "q2;r+n;w0&1");
+        SealedBonds x = Check.market(2, 2);
+        together(x, 0);
         return x;
+    }
+
+    /** The same with that PERSON and the next one, at OFFICES 0 and 1. */
+    private static void together(SealedBonds x, int person) {
+        int first = x.bond(person + 1, 0, 0, 0, 0);
+        x.bond(person, 0, 0, 0, 0);
+        x.bond(person + 1, 1, 0, 0, 0);
+        x.bond(person, 1, 0, 0, 0);
+        Check.lists(x, first + 1, first + 3, first + 2, first);
+        Check.choice(x, 0, "q1;r+n");
+        Check.choice(x, 1, "q2;r+n;w" + person + "&" + (person + 1));
     }
 
     /** Promise 21: "the least number of COUPLES that break and of BONDS that break by themselves". */
@@ -749,6 +759,27 @@ public final class BoundsOfMatchingsTest {
         SealedBonds x = together();
         Check.due("what STANDS is asked for, not what is near", x.places(), 1);
         Check.row("what STANDS is asked for, not what is near", x, 1, 0);
+    }
+
+    /** Promise 22: "0 .. 3 in all": of all OFFICES together, though none of them needs more than three. */
+    private static void placesInAllOffices() {
+        for (int singles = 0; singles <= 3; singles++) {
+            SealedBonds x = Check.market(7, 4);
+            crowd(x, 3, 0, 2, singles);
+            together(x, 5);
+            Check.choice(x, 3, "q1");
+            x.near();
+            int near = x.row(0);
+            Check.due("one, and " + singles + " elsewhere", x.places(), singles < 3 ? singles + 1 : -2);
+            if (singles < 3) {
+                Check.row("one, and " + singles + " elsewhere", x, 1, 0, 0, singles);
+            } else {
+                Check.row("three don't do", x, near);
+            }
+            Check.choice(x, 0, "q2;r+n");
+            Check.due(singles + " elsewhere", x.places(), singles);
+            Check.row(singles + " elsewhere", x, 0, 0, 0, singles);
+        }
     }
 
     /** Promise 22: "what q tells, 8 at most in the end". It can be seen by KEPT places alone. */
