@@ -7,6 +7,7 @@ public final class BoundsOfLotsTest {
         gainNone();
         gainWithoutOutcome();
         gainOfOneToFive();
+        gainByItsOwn();
         gainFirstRow();
         gainByItsList();
         leftInEach();
@@ -82,6 +83,13 @@ public final class BoundsOfLotsTest {
      * number told, and the LIST that gains is by so much longer than three.
      */
     private static SealedBonds late(int later) {
+        SealedBonds x = notLateEnough(later);
+        x.list(x.bond(2, 0, 0, 0, 0));
+        return x;
+    }
+
+    /** The same, but PERSON 2 has one BOND too few for it. */
+    private static SealedBonds notLateEnough(int later) {
         SealedBonds x = Check.market(3, 2);
         int[][] paid = {{0, 40}, {1, 10}, {2, 30}, {1, 20}, {1, 40}, {0, 10}};
         for (int[] b : paid) {
@@ -95,7 +103,6 @@ public final class BoundsOfLotsTest {
             x.list(x.bond(2, 0, 0, 0, 0));
         }
         Check.lists(x, 5, 0, 4, 3, 1, 2);
-        x.list(x.bond(2, 0, 0, 0, 0));
         Check.choice(x, 1, "c50;w1&2");
         return x;
     }
@@ -118,6 +125,27 @@ public final class BoundsOfLotsTest {
         SealedBonds one = late(0);
         Check.choice(one, 1, "c30;w1&2");
         Check.due("nothing can be for both", one.gain(2), 0);
+    }
+
+    /** Promise 23: "any row of BONDS of its, each once": none of another's, none twice. */
+    private static void gainByItsOwn() {
+        for (int later = 0; later <= 2; later++) {
+            SealedBonds x = notLateEnough(later);
+            Check.due(later + 2 + " BONDS are one too few", x.gain(2), 0);
+            x.bond(0, 1, 0, 0, 0);
+            Check.due("another's does not help", x.gain(2), 0);
+            int own = x.bond(2, 0, 0, 0, 0);
+            Check.due("one of its own does, though it is on no LIST", x.gain(2), 1);
+            Check.due("it is in the row", x.row(x.count(5) - 2), own);
+        }
+        SealedBonds last = Check.market(7, 4);
+        for (int b = 0; b < 5; b++) {
+            last.list(last.bond(6, b % 4, 0, 0, 0));
+        }
+        Check.due("five BONDS of the last PERSON, none taken", last.gain(6), 0);
+        Check.choice(last, 0, "q1");
+        Check.due("five BONDS of the last PERSON, the best taken", last.gain(6), 0);
+        Check.row("nothing told", last);
     }
 
     private static int toldSo(SealedBonds x, int person, int... list) {

@@ -17,6 +17,7 @@ public final class BoundsOfMatchingsTest {
         allFromNoneToFortyAndMore();
         allAscending();
         allAnew();
+        fewerThanBefore();
         bestAndWorst();
         bestOfMany();
         bestOfCouples();
@@ -417,6 +418,49 @@ public final class BoundsOfMatchingsTest {
         Check.due(what + ": best", x.best(0), due);
     }
 
+    /** What stood before is nowhere left, when fewer STAND: not in bits, nor in chances, nor between two of ALL. */
+    private static void fewerThanBefore() {
+        SealedBonds x = product(3, 3);
+        Check.due("nine", x.all(), 9);
+        askOfAll(x, 4 | 32, 1 | 8, 2 | 16, 0, 4, 333);
+        x.clear(0);
+        Check.lists(x, 2, 1);
+        Check.due("six", x.all(), 6);
+        Check.row("six", x, 2 | 8, 4 | 8, 2 | 16, 4 | 16, 2 | 32, 4 | 32);
+        askOfAll(x, 4 | 32, 2 | 8, 4 | 16, 0, 3, 500);
+        x.clear(1);
+        Check.due("two", x.all(), 2);
+        Check.row("two", x, 2, 4);
+        askOfAll(x, 4, 2, 4, 2, 1, 500);
+        x.clear(0);
+        Check.due("one", x.all(), 1);
+        Check.row("one", x, 0);
+        askOfAll(x, 0, 0, 0, 3, 0, 0);
+        for (int b = 0; b < 6; b++) {
+            Check.due("never: BOND " + b, x.lot(b), 0);
+            Check.row("never: BOND " + b, x, 0, 1);
+        }
+        SealedBonds fork = MatchingTest.fork();
+        Check.due("by way of the worst", fork.steps(4, 10), 2);
+        fork.clear(1);
+        Check.lists(fork, 2, 1);
+        Check.due("the worst is gone", fork.all(), 2);
+        Check.due("no way by it", fork.steps(4, 10), -2);
+        Check.due("no way back", fork.steps(10, 4), -2);
+        Check.due("none is the best", fork.best(0), -2);
+        Check.due("none is the worst", fork.best(1), -2);
+    }
+
+    private static void askOfAll(SealedBonds x, int best, int worst, int mean, int left, int steps, int lot) {
+        Check.due("best of " + x.all(), x.best(0), best);
+        Check.due("worst of " + x.all(), x.best(1), worst);
+        Check.due("mean of " + x.all(), x.mean(), mean);
+        Check.due("left of " + x.all(), x.left(), left);
+        Check.due("steps in " + x.all(), x.steps(worst, best), steps);
+        Check.due("steps back in " + x.all(), x.steps(best, worst), steps);
+        Check.due("chance of BOND 2 in " + x.all(), x.lot(2), lot);
+    }
+
     // ---- best and steps
 
     /** Promise 19: "the one best FOR PEOPLE (side 0 ..), worst FOR PEOPLE (1 ..)". */
@@ -595,6 +639,28 @@ public final class BoundsOfMatchingsTest {
         Check.due("nor the other way", apart.steps(5, 2), -2);
         Check.due("but to itself", apart.steps(5, 5), 0);
         Check.due("one that does not STAND", apart.steps(2, 4), -1);
+        twoIslands();
+    }
+
+    /** Two apart, each with what another PERSON has, best or worst: a way is there or not, whatever was asked before. */
+    private static void twoIslands() {
+        SealedBonds x = Check.market(3, 2);
+        x.bond(1, 0, 10, 0, 0);
+        x.bond(1, 0, 20, 0, 0);
+        x.bond(0, 0, 10, 0, 0);
+        x.bond(2, 1, 0, 0, 0);
+        x.bond(2, 1, 0, 0, 0);
+        Check.lists(x, 1, 2, 0, 4, 3);
+        Check.choice(x, 0, "c20");
+        Check.choice(x, 1, "q1");
+        int[] four = {2 | 8, 2 | 16, 5 | 8, 5 | 16};
+        Check.due("four STAND", x.all(), 4);
+        for (int times = 0; times < 16; times++) {
+            int from = times * 7 % 16 / 4;
+            int to = times * 7 % 4;
+            Check.due("from " + four[from] + " to " + four[to], x.steps(four[from], four[to]),
+                    from / 2 != to / 2 ? -2 : from == to ? 0 : 1);
+        }
     }
 
     // ---- near
@@ -735,6 +801,29 @@ public final class BoundsOfMatchingsTest {
         Check.choice(x, 0, "q3");
         Check.due("no place", x.places(), 0);
         Check.due("it STANDS", x.all(), 1);
+        placesWithEightBonds();
+    }
+
+    /** An OFFICE with as many BONDS as there may be, and as many places more. */
+    private static void placesWithEightBonds() {
+        int[] due = {0, -2, -2, 3, 2, 1, 0, 0, 0};
+        for (int q = 0; q <= 8; q++) {
+            SealedBonds x = crowd(5, "q" + q);
+            Check.due("the eighth BOND", x.bond(6, 0, 0, 0, 0), 7);
+            Check.due("eight BONDS, q" + q, x.places(), due[q]);
+            Check.due("a place for each who is listed, q" + q, x.all(), due[q] == 0 ? 1 : 0);
+        }
+        SealedBonds x = Check.market(5, 4);
+        crowd(x, 1, 0, 2, 1);
+        Check.choice(x, 1, "q1;x0|2");
+        for (int i = 0; i < 8; i++) {
+            x.list(x.bond(3 + i / 5, 0, 0, 0, 0));
+        }
+        Check.choice(x, 0, "q1");
+        x.near();
+        int near = x.row(0);
+        Check.due("more places where there are not more PEOPLE", x.places(), -2);
+        Check.row("more places where there are not more PEOPLE", x, near);
     }
 
     /** Promise 22: "at some OFFICES", "the ROW: of each OFFICE how many more". */

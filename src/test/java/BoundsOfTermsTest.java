@@ -371,6 +371,14 @@ public final class BoundsOfTermsTest {
         Check.due("the best STANDS alone", x.all(), 1);
         Check.row("the best STANDS alone", x, 3);
         Check.due("both COUPLES have eight", secondCouple(x), 8);
+        Check.choice(x, 1, "q4");
+        Check.due("a ninth of the second is not listed", x.judge(3 | 1 << 7 | 1 << 9), 2);
+        Check.due("its eighth is listed", x.judge(3 | 1 << 10 | 1 << 8), 4);
+        Check.row("its eighth is listed", x, 1, 0);
+        Check.due("both have their best", x.all(), 1);
+        Check.row("both have their best", x, 3 | 1 << 7 | 1 << 6);
+        Check.due("it is near", x.near(), 0);
+        Check.due("it needs no place", x.places(), 0);
     }
 
     private static int secondCouple(SealedBonds x) {
