@@ -1494,7 +1494,7 @@ public final class SealedBonds {
                 return false;
             }
             if (goal == NEAREST) {
-                return weigh(set, slots, wanted);
+                return weigh(set, matchings.breakingBonds(slots, wanted) + matchings.breakingCouples(set, slots));
             }
             if (matchings.breakingOffice(slots, wanted) != NONE || matchings.breakingCouples(set, slots) > 0) {
                 return false;
@@ -1505,8 +1505,7 @@ public final class SealedBonds {
             return goal == ANY;
         }
 
-        private boolean weigh(int set, int slots, int wanted) {
-            int breaking = matchings.breakingBonds(slots, wanted) + matchings.breakingCouples(set, slots);
+        private boolean weigh(int set, int breaking) {
             if (breaking < fewest) {
                 fewest = breaking;
                 nearest = set;
